@@ -982,11 +982,13 @@ public final class NumerationSystems {
             int greatest = base.greatestDigit();
             lowest[0] = m;
             highest[0] = m;
-            for (int i = 0; i < MOST_ENTRIES; i++) {
+            for (int i = 0; i + 1 < lowest.length && i + 1 < highest.length; i++) {
                 int small = base.q * lowest[i] - greatest;
                 int large = base.q * highest[i] - least;
-                lowest[i + 1] = base.p > 0 ? quotientAbove(small) : quotientAbove(large);
-                highest[i + 1] = base.p > 0 ? quotientBelow(large) : quotientBelow(small);
+                int low = quotientAbove(base.p > 0 ? small : large);
+                int high = quotientBelow(base.p > 0 ? large : small);
+                lowest[i + 1] = low;
+                highest[i + 1] = Math.min(high, low + WIDTH - 1);
             }
         }
 
@@ -1003,10 +1005,7 @@ public final class NumerationSystems {
         }
 
         private int highestAt(int level) {
-            if (level < 0 || level >= highest.length) {
-                return -1;
-            }
-            return Math.min(highest[level], lowestAt(level) + WIDTH - 1);
+            return level >= 0 && level < highest.length ? highest[level] : -1;
         }
 
         /** The index of a value at a level, -1 if it is beyond the bounds. */

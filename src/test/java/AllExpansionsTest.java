@@ -84,35 +84,35 @@ public final class AllExpansionsTest {
         Check.due("the value of row 999999", 0, sum);
     }
 
-    /** Every row of a length, in the order of the document; those with the value m are counted and told. */
-    private static void compareWithAllRows(NumerationSystems x, int length, int[] values) {
-        int digits = x.system(0, 2);
-        List<List<int[]>> found = new ArrayList<>();
-        for (int i = 0; i < values.length; i++) {
-            found.add(new ArrayList<>());
+    private static NumerationSystems withBase(int p, int q, int... digits) {
+        NumerationSystems x = new NumerationSystems();
+        x.setBase(0, p, q);
+        Check.giveDigits(x, 0, digits);
+        return x;
+    }
+
+    /** All rows of a length that have the value m, in the document's order, found among all rows there are. */
+    private static List<int[]> rowsWithValue(int p, int q, int[] digits, int length, int m) {
+        List<int[]> found = new ArrayList<>();
+        int rows = 1;
+        for (int i = 0; i < length; i++) {
+            rows *= digits.length;
         }
-        int rows = (int) Math.round(Math.pow(digits, length));
         for (int number = 0; number < rows; number++) {
             int[] row = new int[length];
             int rest = number;
             for (int i = length - 1; i >= 0; i--) {
-                row[i] = x.digitAt(0, rest % digits);
-                rest /= digits;
+                row[i] = digits[rest % digits.length];
+                rest /= digits.length;
             }
-            for (int i = 0; i < values.length; i++) {
-                if (hasValue(x, row, values[i])) {
-                    found.get(i).add(row);
-                }
+            if (hasValue(p, q, row, m)) {
+                found.add(row);
             }
         }
-        for (int i = 0; i < values.length; i++) {
-            dueRows(x, values[i], length, found.get(i));
-        }
+        return found;
     }
 
-    private static boolean hasValue(NumerationSystems x, int[] row, int m) {
-        long p = x.system(0, 0);
-        long q = x.system(0, 1);
+    private static boolean hasValue(long p, long q, int[] row, int m) {
         long sum = 0;
         long powerOfQ = 1;
         for (int i = row.length - 1; i >= 0; i--) {
@@ -138,17 +138,49 @@ public final class AllExpansionsTest {
     }
 
     private static void allRows() {
-        int[][] systems = {{2, 1, 0, 1, -1, 2}, {-2, 1, 3, 0, 1, -4}, {3, 2, 0, -1, 1, 2, 3}, {-3, 2, 5, 0, 1, 2, -5},
-            {4, 3, 3, 2, 1, 0, -20}, {5, 1, 0, 5, -5, 10}, {-10, 9, 0, 10, 20, -20, -10}};
+        int[][] bases = {{2, 1}, {-2, 1}, {3, 2}, {-3, 2}, {4, 3}, {5, 1}, {-10, 9}};
+        int[][] lists = {{0, 1, -1, 2}, {3, 0, 1, -4}, {0, -1, 1, 2, 3}, {5, 0, 1, 2, -5}, {3, 2, 1, 0, -20},
+            {0, 5, -5, 10}, {0, 10, 20, -20, -10}};
         int[] values = {0, 1, -1, 2, 3, -5, 7, 10, 20, -20, 33};
-        for (int[] system : systems) {
+        for (int i = 0; i < bases.length; i++) {
+            int p = bases[i][0];
+            int q = bases[i][1];
             for (int length = 0; length <= 6; length++) {
-                NumerationSystems x = new NumerationSystems();
-                x.setBase(0, system[0], system[1]);
-                Check.giveDigits(x, 0, java.util.Arrays.copyOfRange(system, 2, system.length));
-                compareWithAllRows(x, length, values);
+                for (int m : values) {
+                    dueRows(withBase(p, q, lists[i]), m, length, rowsWithValue(p, q, lists[i], length, m));
+                }
             }
         }
+    }
+
+    /** The farthest digits in base 2 and -2, where what is left of a row can be farthest from another's. */
+    private static void farthestDigits() {
+        int[][] lists = {{-20, 20, -19, 19, 0, 1, -1, 2}, {20, -20}, {-20, 20, 19}, {20, 19, 18, -18, -20},
+            {-20, -19}, {19, 20}, {-20, -18, -16, -14, -12, -10, 20, 18, 16, 14, 12, 10}};
+        for (int[] list : lists) {
+            for (int p = -2; p <= 2; p += 4) {
+                Model model = new Model();
+                model.setBase(0, p, 1);
+                model.removeDigit(0, 0);
+                model.removeDigit(0, 1);
+                for (int digit : list) {
+                    model.addDigit(0, digit);
+                }
+                for (int m = -20; m <= 20; m++) {
+                    NumerationSystems x = withBase(p, 1, list);
+                    compareWithModel(x, model, 1024 + m);
+                    compareWithModel(x, model, -1024 + m);
+                    compareWithModel(x, model, 512 * m);
+                    compareWithModel(x, model, 5000 * m);
+                }
+            }
+        }
+    }
+
+    private static void compareWithModel(NumerationSystems x, Model model, int m) {
+        Check.due("expansions of " + m, model.expansions(0, m, 12), x.expansions(0, m, 12));
+        Check.due("the last digit of " + m, model.expansionDigit(0, m, 12, 0, 11), x.expansionDigit(0, m, 12, 0, 11));
+        Check.due("shortest of " + m, model.shortest(0, m), x.shortest(0, m));
     }
 
     private static void faults() {
@@ -196,6 +228,7 @@ public final class AllExpansionsTest {
         lengthNull();
         manyRows();
         allRows();
+        farthestDigits();
         faults();
         Check.finish("AllExpansionsTest");
     }

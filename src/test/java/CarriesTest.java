@@ -51,6 +51,11 @@ public final class CarriesTest {
         x.setBase(1, -2, 1);
         Check.giveDigits(x, 1, 3, 4);
         dueCarries(x, 1, -2, -1, 0, 1, 2, 3);
+        // -1 comes by one digit: from -2 by -5. Two digits would lead to it only from 1, 2, 3 and 4,
+        // which come at last, by the sum 0.
+        x.setBase(0, 2, 1);
+        Check.giveDigits(x, 0, -5, -4);
+        dueCarries(x, 0, -5, -4, -3, -2, -1, 0, 1, 2, 3, 4);
         // By -8 to -4 also -1 to 3; then by -4, -3, -2 also -2; then by 0 also -3, and no more.
         Check.giveDigits(x, 1, -2, -4, -3);
         dueCarries(x, 1, -3, -2, -1, 0, 1, 2, 3);

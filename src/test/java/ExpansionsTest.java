@@ -183,6 +183,20 @@ public final class ExpansionsTest {
         Check.due("cycleCount in -2 with 2, 1", 1, x.cycleCount(1));
         dueCycle(x, 1, 0, 0, 2, 1);
         Check.due("reachesAll: one cycle that is not 0 alone", 0, x.reachesAll(1));
+        // Base -2 with the digits 1 and -4: -3 and 2 lead to each other, around 0, -2, -1, 1.
+        x.setBase(1, -2, 1);
+        Check.giveDigits(x, 1, 1, -4);
+        Check.due("cycleCount with 1, -4", 2, x.cycleCount(1));
+        dueCycle(x, 1, 0, -3, 2, 2);
+        dueCycle(x, 1, 1, -2, 4, 1);
+        int[] zeroth = {-3, 2, -8};
+        int[] first = {-2, -1, 0, 1, 3, 4, 5};
+        for (int m : zeroth) {
+            Check.due("leadsTo(1, " + m + ")", 0, x.leadsTo(1, m));
+        }
+        for (int m : first) {
+            Check.due("leadsTo(1, " + m + ")", 1, x.leadsTo(1, m));
+        }
         // The farthest elements: (9 * 20 + 20) / 10 = 20.
         x.setBase(1, 10, 9);
         x.addDigit(1, -20);
@@ -204,7 +218,9 @@ public final class ExpansionsTest {
         Check.due("cycle: incomplete, a great k", Check.INCOMPLETE, x.cycle(1, 1000, 2));
         Check.due("leadsTo: incomplete", Check.INCOMPLETE, x.leadsTo(1, 0));
         Check.due("reachesAll: incomplete", Check.INCOMPLETE, x.reachesAll(1));
-        Check.due("cycle: k too great", Check.NONE, x.cycle(0, 2, 0));
+        for (int what = 0; what < 3; what++) {
+            Check.due("cycle: k too great", Check.NONE, x.cycle(0, 2, what));
+        }
         Check.due("cycle: k too great", Check.NONE, x.cycle(0, Integer.MAX_VALUE, 2));
         for (int system = 0; system < 2; system++) {
             Check.due("cycle: k -1", Check.BAD_VALUE, x.cycle(system, -1, 0));

@@ -1,7 +1,13 @@
+import java.lang.reflect.Method;
+import java.lang.reflect.Modifier;
+import java.util.HashMap;
+import java.util.Map;
+
 /** Compares the class with the model in many runs of calls, each on new objects. */
 public final class ModelTest {
     private static final int RUNS = 600;
-    private static final int CALLS = 500;
+    /** With those that compare the states, below the 512 that an object answers. */
+    private static final int CALLS = 440;
 
     private static final String[] NAMES = {
         "setBase", "addDigit", "removeDigit", "choose", "digitAt", "chosen", "system", "digit",
@@ -13,6 +19,9 @@ public final class ModelTest {
     private static final int[] CLOSE = {0, 1, -1, 2, -2, 20, -20, 21, -21};
     private static final int[] EDGES = {Integer.MIN_VALUE, Integer.MAX_VALUE, -1, 0, 60, 61, 100000, -100000, 100001,
         -100001, 1000000000, 1000000001, 999999, 1000000, 12, 13, 10000, 10001, -10001, 2000, 2001, -2001, 100, 101, -101};
+
+    private static final Map<String, Method> OF_CLASS = methodsOf(NumerationSystems.class);
+    private static final Map<String, Method> OF_MODEL = methodsOf(Model.class);
 
     private long seed = 20261119;
 
@@ -66,78 +75,24 @@ public final class ModelTest {
         return below(3) == 0 ? from(0, 3) : below(2) == 0 ? from(0, 500) : place(1000000);
     }
 
-    private static long ask(NumerationSystems x, int call, int[] a) {
-        switch (call) {
-            case 0: return x.setBase(a[0], a[1], a[2]);
-            case 1: return x.addDigit(a[0], a[1]);
-            case 2: return x.removeDigit(a[0], a[1]);
-            case 3: return x.choose(a[0], a[1]);
-            case 4: return x.digitAt(a[0], a[1]);
-            case 5: return x.chosen(a[0], a[1]);
-            case 6: return x.system(a[0], a[1]);
-            case 7: return x.digit(a[0], a[1], a[2], a[3]);
-            case 8: return x.numerator(a[0], a[1], a[2], a[3]);
-            case 9: return x.preperiod(a[0], a[1], a[2]);
-            case 10: return x.period(a[0], a[1], a[2]);
-            case 11: return x.length(a[0], a[1], a[2]);
-            case 12: return x.cycleCount(a[0]);
-            case 13: return x.cycle(a[0], a[1], a[2]);
-            case 14: return x.leadsTo(a[0], a[1]);
-            case 15: return x.reachesAll(a[0]);
-            case 16: return x.expansions(a[0], a[1], a[2]);
-            case 17: return x.expansionDigit(a[0], a[1], a[2], a[3], a[4]);
-            case 18: return x.shortest(a[0], a[1]);
-            case 19: return x.push(a[0], a[1]);
-            case 20: return x.clear(a[0]);
-            case 21: return x.size(a[0]);
-            case 22: return x.entry(a[0], a[1]);
-            case 23: return x.value(a[0], a[1], a[2] == 1);
-            case 24: return x.compare(a[0], a[1], a[2], a[3]);
-            case 25: return x.load(a[0], a[1], a[2]);
-            case 26: return x.add(a[0], a[1], a[2], a[3]);
-            case 27: return x.multiply(a[0], a[1], a[2], a[3]);
-            case 28: return x.convert(a[0], a[1], a[2]);
-            case 29: return x.nextCarry(a[0], a[1], a[2]);
-            case 30: return x.carryCount(a[0]);
-            default: return x.carry(a[0], a[1]);
+    private static Map<String, Method> methodsOf(Class<?> asked) {
+        Map<String, Method> methods = new HashMap<>();
+        for (Method method : asked.getDeclaredMethods()) {
+            if (!Modifier.isPrivate(method.getModifiers())) {
+                methods.put(method.getName(), method);
+            }
         }
+        return methods;
     }
 
-    private static long ask(Model x, int call, int[] a) {
-        switch (call) {
-            case 0: return x.setBase(a[0], a[1], a[2]);
-            case 1: return x.addDigit(a[0], a[1]);
-            case 2: return x.removeDigit(a[0], a[1]);
-            case 3: return x.choose(a[0], a[1]);
-            case 4: return x.digitAt(a[0], a[1]);
-            case 5: return x.chosen(a[0], a[1]);
-            case 6: return x.system(a[0], a[1]);
-            case 7: return x.digit(a[0], a[1], a[2], a[3]);
-            case 8: return x.numerator(a[0], a[1], a[2], a[3]);
-            case 9: return x.preperiod(a[0], a[1], a[2]);
-            case 10: return x.period(a[0], a[1], a[2]);
-            case 11: return x.length(a[0], a[1], a[2]);
-            case 12: return x.cycleCount(a[0]);
-            case 13: return x.cycle(a[0], a[1], a[2]);
-            case 14: return x.leadsTo(a[0], a[1]);
-            case 15: return x.reachesAll(a[0]);
-            case 16: return x.expansions(a[0], a[1], a[2]);
-            case 17: return x.expansionDigit(a[0], a[1], a[2], a[3], a[4]);
-            case 18: return x.shortest(a[0], a[1]);
-            case 19: return x.push(a[0], a[1]);
-            case 20: return x.clear(a[0]);
-            case 21: return x.size(a[0]);
-            case 22: return x.entry(a[0], a[1]);
-            case 23: return x.value(a[0], a[1], a[2] == 1);
-            case 24: return x.compare(a[0], a[1], a[2], a[3]);
-            case 25: return x.load(a[0], a[1], a[2]);
-            case 26: return x.add(a[0], a[1], a[2], a[3]);
-            case 27: return x.multiply(a[0], a[1], a[2], a[3]);
-            case 28: return x.convert(a[0], a[1], a[2]);
-            case 29: return x.nextCarry(a[0], a[1], a[2]);
-            case 30: return x.carryCount(a[0]);
-            default: return x.carry(a[0], a[1]);
+    private static long ask(Object x, Map<String, Method> methods, String name, int[] arguments)
+            throws ReflectiveOperationException {
+        Method method = methods.get(name);
+        Object[] given = new Object[arguments.length];
+        for (int i = 0; i < given.length; i++) {
+            given[i] = method.getParameterTypes()[i] == boolean.class ? (Object) (arguments[i] == 1) : (Object) arguments[i];
         }
+        return ((Number) method.invoke(x, given)).longValue();
     }
 
     private int[] arguments(int call) {
@@ -192,7 +147,7 @@ public final class ModelTest {
         }
     }
 
-    private void run(int run) {
+    private void run(int run) throws ReflectiveOperationException {
         NumerationSystems x = new NumerationSystems();
         Model model = new Model();
         for (int number = 0; number < CALLS; number++) {
@@ -203,12 +158,13 @@ public final class ModelTest {
             }
             int[] arguments = number < 2 ? new int[] {number, from(-10, 10), from(1, 9)} : arguments(call);
             call = number < 2 ? 0 : call;
-            Check.due(told(run, number, call, arguments), ask(model, call, arguments), ask(x, call, arguments));
+            Check.due(told(run, number, call, arguments), ask(model, OF_MODEL, NAMES[call], arguments),
+                    ask(x, OF_CLASS, NAMES[call], arguments));
         }
         compareStates(run, CALLS, x, model);
     }
 
-    public static void main(String[] args) {
+    public static void main(String[] args) throws ReflectiveOperationException {
         ModelTest test = new ModelTest();
         for (int run = 0; run < RUNS; run++) {
             test.run(run);

@@ -2,7 +2,8 @@ import java.lang.management.ManagementFactory;
 
 /** The room: an object is small, and its calls make no further objects. */
 public final class RoomTest {
-    private static final int CALLS = 512;
+    /** The sixteen calls of a round, and setBase: just below 512. */
+    private static final int ROUNDS = 31;
     /** Bytes of a new object, and of all the calls on it; a hundredth of the room is some 600,000. */
     private static final long MOST_NEW = 40000;
     private static final long MOST_CALLED = 20000;
@@ -12,7 +13,7 @@ public final class RoomTest {
 
     private static long callsOf(NumerationSystems x) {
         long sum = 0;
-        for (int i = 0; i < CALLS / 16; i++) {
+        for (int i = 0; i < ROUNDS; i++) {
             sum += x.digit(0, i, 7, 1000000000) + x.numerator(1, -100000 + i, 59, 1000000000) + x.length(0, i, 1);
             sum += x.cycle(0, 0, 1) + x.leadsTo(1, i) + x.expansions(0, i, 12) + x.expansionDigit(1, i, 12, 0, 11);
             sum += x.shortest(1, i) + x.load(0, i, 0) + x.add(0, 0, 0, 1) + x.multiply(1, 0, 3, 2) + x.convert(0, 0, 2);

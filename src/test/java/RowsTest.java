@@ -103,6 +103,18 @@ public final class RowsTest {
         Check.fill(x, 1, 1);
         Check.due("1 / 2 against 1 / 4", 2, x.compare(0, 0, 1, 1));
         Check.due("1 / 4 against 1 / 2", 0, x.compare(1, 1, 0, 0));
+        // The same whole parts, and one of the rests is 0.
+        Check.fill(x, 1);
+        Check.due("1 / 2 against 0", 2, x.compare(0, 0, 0, 1));
+        Check.due("0 against 1 / 2", 0, x.compare(0, 1, 0, 0));
+        Check.fill(x, 1, 3);
+        Check.fill(x, 2, 2);
+        Check.due("3 / 2 against 1", 2, x.compare(0, 1, 0, 2));
+        Check.due("1 against 3 / 2", 0, x.compare(0, 2, 0, 1));
+        Check.fill(x, 1, -1);
+        Check.fill(x, 2, -2);
+        Check.due("-1 / 2 against -1", 2, x.compare(0, 1, 0, 2));
+        Check.due("-1 against -1 / 2", 0, x.compare(0, 2, 0, 1));
         for (int wrong : NO_SYSTEM) {
             Check.due("compare: no first system", Check.UNKNOWN, x.compare(wrong, 0, 0, 0));
             Check.due("compare: no second system", Check.UNKNOWN, x.compare(0, 0, wrong, 0));
