@@ -47,7 +47,7 @@ public final class NumerationSystems {
 
     public NumerationSystems() {
         for (int i = 0; i < SYSTEMS; i++) {
-            systems[i] = new NumberSystem();
+            systems[i] = newSystem();
         }
         for (int i = 0; i < ROWS; i++) {
             rows[i] = new Row();
@@ -454,6 +454,11 @@ public final class NumerationSystems {
 
     // ---- what the methods above share
 
+    private static NumberSystem newSystem() {
+        Base base = new Base();
+        return new NumberSystem(base, new Walk(base), new Cycles(base), new Ways(base), new CarrySet(base));
+    }
+
     private NumberSystem systemAt(int number) {
         return number < 0 || number >= systems.length ? null : systems[number];
     }
@@ -549,12 +554,12 @@ public final class NumerationSystems {
         private final Ways ways;
         private final CarrySet carries;
 
-        private NumberSystem() {
-            base = new Base();
-            walk = new Walk(base);
-            cycles = new Cycles(base);
-            ways = new Ways(base);
-            carries = new CarrySet(base);
+        private NumberSystem(Base base, Walk walk, Cycles cycles, Ways ways, CarrySet carries) {
+            this.base = base;
+            this.walk = walk;
+            this.cycles = cycles;
+            this.ways = ways;
+            this.carries = carries;
         }
     }
 
