@@ -1,8 +1,3 @@
-import java.lang.reflect.Method;
-import java.lang.reflect.Modifier;
-import java.util.HashMap;
-import java.util.Map;
-
 /** Compares the class with the model in many runs of calls, each on new objects. */
 public final class ModelTest {
     private static final int RUNS = 600;
@@ -19,9 +14,6 @@ public final class ModelTest {
     private static final int[] CLOSE = {0, 1, -1, 2, -2, 20, -20, 21, -21};
     private static final int[] EDGES = {Integer.MIN_VALUE, Integer.MAX_VALUE, -1, 0, 60, 61, 100000, -100000, 100001,
         -100001, 1000000000, 1000000001, 999999, 1000000, 12, 13, 10000, 10001, -10001, 2000, 2001, -2001, 100, 101, -101};
-
-    private static final Map<String, Method> OF_CLASS = methodsOf(NumerationSystems.class);
-    private static final Map<String, Method> OF_MODEL = methodsOf(Model.class);
 
     private long seed = 20261119;
 
@@ -75,26 +67,6 @@ public final class ModelTest {
         return below(3) == 0 ? from(0, 3) : below(2) == 0 ? from(0, 500) : place(1000000);
     }
 
-    private static Map<String, Method> methodsOf(Class<?> asked) {
-        Map<String, Method> methods = new HashMap<>();
-        for (Method method : asked.getDeclaredMethods()) {
-            if (!Modifier.isPrivate(method.getModifiers())) {
-                methods.put(method.getName(), method);
-            }
-        }
-        return methods;
-    }
-
-    private static long ask(Object x, Map<String, Method> methods, String name, int[] arguments)
-            throws ReflectiveOperationException {
-        Method method = methods.get(name);
-        Object[] given = new Object[arguments.length];
-        for (int i = 0; i < given.length; i++) {
-            given[i] = method.getParameterTypes()[i] == boolean.class ? (Object) (arguments[i] == 1) : (Object) arguments[i];
-        }
-        return ((Number) method.invoke(x, given)).longValue();
-    }
-
     private int[] arguments(int call) {
         switch (call) {
             case 0: return new int[] {system(), below(20) == 0 ? edge() : from(-11, 11), below(20) == 0 ? edge() : from(0, 10)};
@@ -123,14 +95,6 @@ public final class ModelTest {
         }
     }
 
-    private static String told(int run, int number, int call, int[] arguments) {
-        StringBuilder text = new StringBuilder("run " + run + ", call " + number + ": " + NAMES[call] + "(");
-        for (int i = 0; i < arguments.length; i++) {
-            text.append(i == 0 ? "" : ", ").append(arguments[i]);
-        }
-        return text.append(")").toString();
-    }
-
     private void compareStates(int run, int number, NumerationSystems x, Model model) {
         for (int row = 0; row < 3; row++) {
             Check.due("run " + run + " behind call " + number + ": size(" + row + ")", model.size(row), x.size(row));
@@ -147,7 +111,7 @@ public final class ModelTest {
         }
     }
 
-    private void run(int run) throws ReflectiveOperationException {
+    private void run(int run) {
         NumerationSystems x = new NumerationSystems();
         Model model = new Model();
         for (int number = 0; number < CALLS; number++) {
@@ -158,13 +122,13 @@ public final class ModelTest {
             }
             int[] arguments = number < 2 ? new int[] {number, from(-10, 10), from(1, 9)} : arguments(call);
             call = number < 2 ? 0 : call;
-            Check.due(told(run, number, call, arguments), ask(model, OF_MODEL, NAMES[call], arguments),
-                    ask(x, OF_CLASS, NAMES[call], arguments));
+            Call made = new Call(NAMES[call], arguments);
+            Check.due("run " + run + ", call " + number + ": " + made, made.on(model), made.on(x));
         }
         compareStates(run, CALLS, x, model);
     }
 
-    public static void main(String[] args) throws ReflectiveOperationException {
+    public static void main(String[] args) {
         ModelTest test = new ModelTest();
         for (int run = 0; run < RUNS; run++) {
             test.run(run);
