@@ -226,6 +226,17 @@ public final class SentencesTest {
         dueNumbers(withBase(-2, 1, 1, -4));
         dueNumbers(withBase(3, 1, 0, 1, 5));
         dueNumbers(withBase(3, 2, 0, 20, -20));
+        dueNumbers(withBase(-2, 1, -20, 17));
+        // The longest cycle there is: -17 and 20 stay, and all between them follow one another.
+        NumerationSystems x = withBase(2, 1, -20, 17);
+        dueNumbers(x);
+        int[][] cycles = {{-17, 1, -17}, {-16, 36, 19}, {20, 1, 20}};
+        Check.due("cycles by -20, 17", cycles.length, x.cycleCount(0));
+        for (int k = 0; k < cycles.length; k++) {
+            for (int what = 0; what < 3; what++) {
+                Check.due("cycle " + k + " by -20, 17: " + what, cycles[k][what], x.cycle(0, k, what));
+            }
+        }
     }
 
     private static void dueNumbers(NumerationSystems x) {
@@ -338,6 +349,10 @@ public final class SentencesTest {
         dueCarries("a digit that is not chosen", withBase(10, 1, 0, 1, 2, 3, 4, 5, 6, 7, 8, 9, 20), 0, 1, 2, 3, 4);
         // By 11 to 20 there is 1, and with it by 20 also 2; -1 comes at last, from 0 by the sum 0.
         dueCarries("10 in place of 0", withBase(10, 1, 10, 1, 2, 3, 4, 5, 6, 7, 8, 9), -1, 0, 1, 2);
+        // By two digits there are -6, -2, 2; then by one there are 4, from 2 by 2 alone, and -4.
+        dueCarries("2, -2, -6 in 3 / 2", withBase(3, 2, 2, -2, -6), -6, -4, -2, 0, 2, 4);
+        // -1 comes by one digit, from 0 by the 3 that is not chosen, and by nothing else.
+        dueCarries("4, 2, 6, 3 in 3 / 2", withBase(3, 2, 4, 2, 6, 3), -2, -1, 0, 1, 2, 3, 4, 5, 6);
         // By 10 to 18 there is -1, and with it by 0 there is 1, since -1 is 9 - 10.
         dueCarries("base -10", withBase(-10, 1, 0, 1, 2, 3, 4, 5, 6, 7, 8, 9), -1, 0, 1);
     }
