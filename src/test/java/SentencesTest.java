@@ -226,15 +226,24 @@ public final class SentencesTest {
         dueNumbers(withBase(-2, 1, 1, -4));
         dueNumbers(withBase(3, 1, 0, 1, 5));
         dueNumbers(withBase(3, 2, 0, 20, -20));
-        dueNumbers(withBase(-2, 1, -20, 17));
-        // The longest cycle there is: -17 and 20 stay, and all between them follow one another.
+        // The longest cycles there are. By -20 and 17 in base 2, -17 and 20 stay, and all between them follow one another.
         NumerationSystems x = withBase(2, 1, -20, 17);
         dueNumbers(x);
-        int[][] cycles = {{-17, 1, -17}, {-16, 36, 19}, {20, 1, 20}};
-        Check.due("cycles by -20, 17", cycles.length, x.cycleCount(0));
+        dueCycles(x, new int[][] {{-17, 1, -17}, {-16, 36, 19}, {20, 1, 20}});
+        // By -18 and 19 in base -2, -6 stays, and 18 is the last one behind -18.
+        x = withBase(-2, 1, -18, 19);
+        dueNumbers(x);
+        dueCycles(x, new int[][] {{-18, 36, 18}, {-6, 1, -6}});
+        for (int m = -18; m <= 18; m++) {
+            Check.due("leadsTo(0, " + m + ") by -18, 19", m == -6 ? 1 : 0, x.leadsTo(0, m));
+        }
+    }
+
+    private static void dueCycles(NumerationSystems x, int[][] cycles) {
+        Check.due("number of cycles", cycles.length, x.cycleCount(0));
         for (int k = 0; k < cycles.length; k++) {
             for (int what = 0; what < 3; what++) {
-                Check.due("cycle " + k + " by -20, 17: " + what, cycles[k][what], x.cycle(0, k, what));
+                Check.due("cycle(0, " + k + ", " + what + ")", cycles[k][what], x.cycle(0, k, what));
             }
         }
     }
