@@ -16,9 +16,8 @@ import java.util.regex.Pattern;
 public final class ErrorsTest {
     private static final Pattern CONSTANT = Pattern.compile("\\b(UNKNOWN|BAD_VALUE|INCOMPLETE|NOT_POSSIBLE|FULL|NONE|NO_VALUE)\\b");
 
-    /** A digit out of range is in no list; an expansion that is not finite has no length; a negative k is not too great. */
-    private static final Set<String> NEVER_AT_ONCE = Set.of(
-            "addDigit BAD_VALUE NOT_POSSIBLE", "load NOT_POSSIBLE FULL", "carry BAD_VALUE NONE");
+    /** A digit out of range is in no list; a negative k is not too great. */
+    private static final Set<String> NEVER_AT_ONCE = Set.of("addDigit BAD_VALUE NOT_POSSIBLE", "carry BAD_VALUE NONE");
 
     private static int number(String constant) {
         switch (constant) {
@@ -78,12 +77,39 @@ public final class ErrorsTest {
         }
     }
 
+    /** "digit: -20 to 20" and "NOT_POSSIBLE if it is in the list": refused, a digit out of range stays out of the list. */
+    private static void digitsOutOfRange() {
+        for (int digit = -60; digit <= 60; digit++) {
+            NumerationSystems x = new NumerationSystems();
+            x.setBase(0, 2, 1);
+            boolean inRange = digit >= -20 && digit <= 20;
+            boolean given = digit == 0 || digit == 1;
+            Check.due("addDigit(0, " + digit + ")", !inRange ? Check.BAD_VALUE : given ? Check.NOT_POSSIBLE : 3, x.addDigit(0, digit));
+            Check.due("addDigit(0, " + digit + ") again", inRange ? Check.NOT_POSSIBLE : Check.BAD_VALUE, x.addDigit(0, digit));
+            Check.due("removeDigit(0, " + digit + ")", !inRange ? Check.NOT_POSSIBLE : given ? 1 : 2, x.removeDigit(0, digit));
+        }
+    }
+
+    /** "BAD_VALUE if k is negative" and "NONE if there are not so many": each k is one of both, or a carry. */
+    private static void numbersOfCarries() {
+        NumerationSystems x = new NumerationSystems();
+        x.setBase(0, -10, 9);
+        int count = x.carryCount(0);
+        for (int k = -count - 2; k <= 2 * count + 2; k++) {
+            int answer = x.carry(0, k);
+            Check.due("carry(0, " + k + ") is bad", k < 0 ? 1 : 0, answer == Check.BAD_VALUE ? 1 : 0);
+            Check.due("carry(0, " + k + ") is none", k >= count ? 1 : 0, answer == Check.NONE ? 1 : 0);
+        }
+    }
+
     public static void main(String[] args) throws IOException {
         List<Refusals.Refusal> refusals = Refusals.all();
         for (Refusals.Refusal refusal : refusals) {
             Check.due(refusal.toString(), refusal.due(), refusal.call.on(refusal.state.make()));
         }
         allAreTried(refusals);
+        digitsOutOfRange();
+        numbersOfCarries();
         Check.finish("ErrorsTest");
     }
 }

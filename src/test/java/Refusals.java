@@ -338,6 +338,11 @@ final class Refusals {
         add(State.PLAIN, four.with(1, -100000), N);
         add(State.BINARY, tooLong, F);
         add(State.BINARY, four.with(1, 100000), F);
+        // Behind the digits of -8192, thirteen 0, come 1, 1, 1, ...: more than 12 digits, and no end.
+        add(State.BINARY, four.with(1, -8192), N, F);
+        add(State.BINARY, four.with(1, -100000), N, F);
+        add(State.BINARY_INCOMPLETE, four.with(1, -8192), I, N, F);
+        add(State.BINARY, four.with(1, -100001), B, N, F);
     }
 
     private void sums() {

@@ -203,6 +203,37 @@ public final class RowSentencesTest {
         }
     }
 
+    /** "NOT_POSSIBLE if the expansion is not finite; FULL if it has more than 12 digits", the first one for an endless one too. */
+    private static void endlessExpansions() {
+        int[][] powers = {{4, 2, 0, 1}, {8, 4, 0, 2}, {6, 9, 0, 4}, {2, 9, 1, 8}};
+        int[] due = {11, 12, Check.FULL, Check.FULL};
+        for (int i = 0; i < powers.length; i++) {
+            NumerationSystems x = new NumerationSystems();
+            x.setBase(1, 2, 1);
+            int m = 1024 << i;
+            Check.fill(x, 0, powers[i]);
+            Check.due("convert " + m, due[i], x.convert(0, 0, 1));
+            Check.due("load " + m, due[i], x.load(1, m, 2));
+            Check.fill(x, 1, 7);
+            Check.fill(x, 2, 7);
+            Check.fill(x, 0, -powers[i][0], -powers[i][1], -powers[i][2], -powers[i][3]);
+            dueNoExpansion(x, -m);
+            // With 2 in place of 0, 0 leads to -1, and -1 to itself.
+            Check.giveDigits(x, 1, 2, 1);
+            dueNoExpansion(x, -m);
+            Check.fill(x, 0, powers[i]);
+            dueNoExpansion(x, m);
+        }
+    }
+
+    private static void dueNoExpansion(NumerationSystems x, int m) {
+        Check.due("length of " + m, Check.NONE, x.length(1, m, 1));
+        Check.due("convert " + m, Check.NOT_POSSIBLE, x.convert(0, 0, 1));
+        Check.dueRow("convert " + m, x, 1, 7);
+        Check.due("load " + m, Check.NOT_POSSIBLE, x.load(1, m, 2));
+        Check.dueRow("load " + m, x, 2, 7);
+    }
+
     public static void main(String[] args) {
         everyBase();
         lowestTerms();
@@ -211,6 +242,7 @@ public final class RowSentencesTest {
         ends();
         conversions();
         conversionsOfThirds();
+        endlessExpansions();
         Check.finish("RowSentencesTest");
     }
 }
